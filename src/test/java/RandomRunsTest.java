@@ -25,6 +25,9 @@ public final class RandomRunsTest {
         for (int run = 0; run < runs; run++) {
             new RandomRunsTest(check, run).all();
         }
+        for (int run = runs; run < runs + 20 * runs; run++) {
+            new RandomRunsTest(check, run).oneText();
+        }
         check.end();
     }
 
@@ -45,6 +48,25 @@ public final class RandomRunsTest {
         while (calls < 512) {
             one();
         }
+    }
+
+    /** A text, mostly right or nearly so, and what is thought by it. */
+    private void oneText() {
+        due("person(0, 3)", x.person(0, 3), o.person(0, 3));
+        for (int h = 0; h < 8; h++) {
+            int v = random.nextInt(19) - 9;
+            due("set(3, " + h + ", " + v + ")", x.set(3, h, v), o.set(3, h, v));
+        }
+        String text = drawnText();
+        Check.feed(x, text);
+        o.tape.append(text, 0, Math.min(160, text.length()));
+        due("text() of " + text, x.text(), o.text());
+        due("force(1) of " + text, x.force(1), o.force(1));
+        for (int h = 0; h < 8; h++) {
+            due("told(0, " + (20 + h) + ") of " + text, x.told(0, 20 + h), o.told(0, 20 + h));
+            due("told(0, " + (30 + h) + ") of " + text, x.told(0, 30 + h), o.told(0, 30 + h));
+        }
+        due("told(0, 10) of " + text, x.told(0, 10), o.told(0, 10));
     }
 
     private void due(String call, long got, long want) {
@@ -125,6 +147,19 @@ public final class RandomRunsTest {
         if (random.nextInt(4) != 0) {
             return;
         }
+        String text = drawnText();
+        for (int i = 0; i < text.length() && calls < 511; i++) {
+            int c = text.charAt(i);
+            due("feed(" + c + ")", x.feed(c), o.feed(c));
+        }
+        int before = o.texts.size();
+        due("text()", x.text(), o.text());
+        if (o.texts.size() > before && calls < 512) {
+            due("force(" + before + ")", x.force(before), o.force(before));
+        }
+    }
+
+    private String drawnText() {
         StringBuilder text = new StringBuilder();
         int kind = random.nextInt(10);
         if (kind < 8) {
@@ -143,15 +178,7 @@ public final class RandomRunsTest {
                 default: text.setCharAt(at, (char) random.nextInt(256));
             }
         }
-        for (int i = 0; i < text.length() && calls < 511; i++) {
-            int c = text.charAt(i);
-            due("feed(" + c + ")", x.feed(c), o.feed(c));
-        }
-        int before = o.texts.size();
-        due("text()", x.text(), o.text());
-        if (o.texts.size() > before && calls < 512) {
-            due("force(" + before + ")", x.force(before), o.force(before));
-        }
+        return text.toString();
     }
 
     private String token() {
