@@ -277,10 +277,20 @@ public final class BestTest {
         check.due("best(2, 1)", x.best(2, 1), -5);
         x.set(3, 7, -1);
         check.due("best(0, 0), the last", x.best(0, 0), 7);
-        RememberedAsSunny y = new RememberedAsSunny();
-        y.person(0, 0);
-        y.set(3, 6, 1);
-        check.due("best(0, 2), none else", y.best(0, 2), 64);
+        for (int hour = 0; hour < 8; hour++) {
+            RememberedAsSunny y = new RememberedAsSunny();
+            y.person(0, 0);
+            y.set(3, hour, 1);
+            check.due("best(0, 0)", y.best(0, 0), hour);
+            check.due("best(0, 1)", y.best(0, 1), 1);
+            check.due("best(0, 2), none else", y.best(0, 2), 1 << hour);
+            y.person(2, hour);
+            check.due("best(0, 2), a boy too", y.best(0, 2), 0);
+            check.due("best(1, 0)", y.best(1, 0), hour);
+            y.set(3, (hour + 1) % 8, 1);
+            check.due("best(0, 2), but the boy's", y.best(0, 2), 1 << (hour + 1) % 8);
+            check.due("best(1, 2)", y.best(1, 2), 0);
+        }
     }
 
     private static void agree() {

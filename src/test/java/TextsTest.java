@@ -6,6 +6,9 @@ public final class TextsTest {
         feeds();
         takesTexts();
         faults();
+        everyByte();
+        tapeIsReadToItsSize();
+        opensAnew();
         opens();
         fullOfTexts();
         forces();
@@ -87,7 +90,11 @@ public final class TextsTest {
             "thinks not ^;", "thinks not ^and 1;", "thinks 1 and ^and 2;", "thinks 1 or ^;", "thinks ^or 1;", "thinks 1 and ^or 2;",
             "thinks (^);", "thinks (1^;", "thinks (1 ^2);", "thinks ^)", "thinks 1^);", "thinks (1)^);", "thinks (1) ^(2);",
             "thinks 1;mends ^claims 3;", "thinks 1;mends 2 ^claims 3;", "thinks ((1)^;", "thinks ^mends 2;", "thinks not1;^",
-            "thinks ^notweather;", "thinks 1 ^orr 2;", "thinks 1 or2 ^3;",
+            "thinks ^notweather;", "thinks 1 ^orr 2;", "thinks 1 or2 ^3;", "^xhinks 1;",
+            "thinks ^teather;", "thinks 1 ^dr 2;", "thinks ^weatherz;", "thinks ^z;", "thinks ^a;", "thinks 1;mends ^weathes;",
+            "thinks (^foo 1);mends 1;claims 1;", "thinks not ^foo 1;mends 1;claims 1;", "thinks - ^foo 1;mends 1;claims 1;",
+            "thinks (^12345 1);mends 1;claims 1;", "thinks not ^12345 1;mends 1;claims 1;", "thinks 1 + ^foo + 2;mends 1;claims 1;",
+            "thinks 1 * ^00000 * 2;mends 1;claims 1;", "thinks 1;mends 2;claims 3; ^foo", "thinks 1;^foo mends 2;claims 3;",
         };
         for (String marked : bad) {
             int place = marked.indexOf('^');
@@ -96,6 +103,65 @@ public final class TextsTest {
             check.due("text() of " + marked, Check.text(x, text), -100 - place);
             check.due("count(4) behind it", x.count(4), 0);
             check.due("count(3) behind it", x.count(3), 1);
+        }
+    }
+
+    /** Where a ONE is due a byte is a fault, but for those that begin one; behind one, but for those that go on. */
+    private static void everyByte() {
+        for (int c = 0; c < 256; c++) {
+            RememberedAsSunny x = new RememberedAsSunny();
+            Check.feed(x, "thinks ");
+            x.feed(c);
+            Check.feed(x, " 1;");
+            boolean through = c == ' ' || c == '\n' || c == '-';
+            int want = through ? -111 : c == '(' ? -110 : c >= '0' && c <= '9' ? -109 : -107;
+            check.due("the byte " + c + " where a ONE is due", x.text(), want);
+            Check.feed(x, "thinks 1");
+            x.feed(c);
+            boolean blank = c == ' ' || c == '\n';
+            boolean sign = "+-*<=".indexOf(c) >= 0;
+            want = blank || sign || c >= '0' && c <= '9' || c == ';' ? -109 : -108;
+            check.due("the byte " + c + " behind a ONE", x.text(), want);
+            Check.feed(x, "thinks 1;mends 2;claims 3;");
+            x.feed(c);
+            check.due("the byte " + c + " behind a text", x.text(), blank ? 1 : -126);
+        }
+    }
+
+    private static void tapeIsReadToItsSize() {
+        RememberedAsSunny x = new RememberedAsSunny();
+        for (int i = 0; i < 160; i++) {
+            x.feed('z');
+        }
+        check.due("160 letters", x.text(), -100);
+        for (int i = 0; i < 160; i++) {
+            x.feed('9');
+        }
+        check.due("160 digits", x.text(), -100);
+        check.due("what stood there before", Check.text(x, "thinks 1;mends 2;claims 3"), -125);
+        check.due("what stood there before", Check.text(x, "thinks weathers"), -107);
+        check.due("what stood there before", Check.text(x, "thinks weather"), -114);
+        check.due("what stood there before", Check.text(x, "thinks 1;mends 2;claims 3; \n "), 1);
+        check.due("what stood there before", Check.text(x, "thinks 1;mends 2;claims 3;"), 2);
+        check.due("what stood there before", Check.text(x, "thinks 1;mends 2;claims 3"), -125);
+        for (int i = 0; i < 160; i++) {
+            x.feed(' ');
+        }
+        check.due("160 blanks", x.text(), -260);
+        Check.feed(x, "thinks 1;mends 2;claims ");
+        for (int i = 24; i < 157; i++) {
+            x.feed(' ');
+        }
+        check.due("a 160th byte", Check.text(x, "99;"), 3);
+    }
+
+    /** What a fault left open is not open in the next text. */
+    private static void opensAnew() {
+        String[] faulty = {"thinks (((((;", "thinks -----;", "thinks not not not not not;", "thinks ((((((1", "thinks not(-(-"};
+        for (String fault : faulty) {
+            RememberedAsSunny x = new RememberedAsSunny();
+            check.that(fault, Check.text(x, fault) < -100);
+            check.due("behind " + fault, Check.text(x, "thinks (((((1)))));mends -----1;claims not not not not not 1;"), 1);
         }
     }
 
@@ -242,6 +308,13 @@ public final class TextsTest {
             check.due("mends", x.told(0, 30 + hour), last[hour] + hour * 10 + hour % 2);
         }
         check.due("claims", x.told(0, 10), 36);
+        x.force(Check.text(x, "thinks years+number*10;mends years*2+number*20;claims 0;"));
+        x.person(0, 1);
+        check.due("thinks", x.told(0, 20), 36);
+        check.due("thinks of another", x.told(1, 20), 16);
+        check.due("mends", x.told(0, 30), 72);
+        check.due("mends of another", x.told(1, 30), 32);
+        check.due("COST of both", x.told(4, 11), 104);
         text = Check.text(x, "thinks 0;mends 0-5;claims 0-5;");
         x.force(text);
         check.due("mends, bound", x.told(0, 30), 0);

@@ -251,6 +251,18 @@ public final class ToldTest {
             check.due("never, below", x.chance(5, m, 1, 1), 1);
         }
         x.person(0, 0);
+        x.set(1, 0, -999);
+        for (int one = 1; one < 6; one++) {
+            check.due("who came since the last call", x.chance(0, 3, one, 0), 1);
+            check.due("not so many", x.chance(0, 3, one + 1, 0), 0);
+            x.person(0, 0);
+        }
+        check.due("all six, above", x.chance(0, 20, 6, 0), 1);
+        check.due("all six, below", x.chance(0, 20, 6, 1), 1);
+        x.set(1, 0, 999);
+        check.due("none, above", x.chance(0, 20, 6, 0), 0);
+        x = new RememberedAsSunny();
+        x.person(0, 0);
         x.person(1, 0);
         x.person(5, 0);
         x.set(1, 0, 18);

@@ -183,6 +183,13 @@ public final class YearsTest {
         check.due("NEVER, an hour mended", x.society(3), 0b00101000);
         x.set(6, 1, 70);
         check.due("PREMIUMS", x.society(2), 80);
+        check.due("image()", x.image(), 3);
+        x.person(0, 0);
+        x.person(0, 0);
+        x.person(0, 0);
+        check.due("PREMIUMS of six", x.society(2), 95);
+        x.back();
+        check.due("PREMIUMS of those who came are gone", x.society(2), 80);
         // memories: mother 12, guest 8, baby 2 + 9
         x.set(1, 0, 9);
         check.due("HAZY", x.society(0), 2);
@@ -198,6 +205,10 @@ public final class YearsTest {
         check.due("DUE less a widow's", x.society(1), 34);
         // COST of the hours 1 .. 7: guest 9 11 10 8 10 13 10, mother 4 5 5 4 5 6 5, baby 1 each, widow 0
         check.due("COST of the rest", x.society(4), 71 + 34 + 7);
+        x.set(4, 0, 0);
+        check.due("COST of all", x.society(4), 71 + 34 + 7 + 10 + 5 + 1);
+        x.set(4, 7, 1);
+        check.due("COST of all but the last", x.society(4), 71 + 34 + 7 + 10 + 5 + 1 - 10 - 5 - 1);
         for (int hour = 0; hour < 8; hour++) {
             x.set(4, hour, 1);
         }
