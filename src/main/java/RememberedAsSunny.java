@@ -368,8 +368,7 @@ public final class RememberedAsSunny {
     // ---- memories that were told
 
     public int tells(int sheet, int one, int what) {
-        boolean aboutHour = isHour(what - 10);
-        if (!isSheet(sheet) || !now.has(one) || !aboutHour && (what < 0 || what > 8)) {
+        if (!isSheet(sheet) || !now.has(one) || !isHour(what - 10) && (what < 0 || what > 8)) {
             return BAD;
         }
         Sheet told = sheets[sheet];
@@ -380,19 +379,17 @@ public final class RememberedAsSunny {
             return BAD;
         }
         thought.become(now);
-        if (aboutHour) {
-            return weathersTold(told, one, what - 10);
-        }
         switch (what) {
             case 0: return firstOtherwise(told, one);
-            case 1: return kindsTold(told, one);
-            case 2: return numbersTold(told, one);
+            case 1: return bitsTold(told, one, what, KINDS);
+            case 2: return bitsTold(told, one, what, NUMBERS);
             case 3: return yearsTold(told, one, true);
             case 4: return yearsTold(told, one, false);
             case 5: return mendedTold(told, one, true);
             case 6: return mendedTold(told, one, false);
-            case 7: return textsTold(told, one);
-            default: return peopleTold(told);
+            case 7: return bitsTold(told, one, what, minds.size);
+            case 8: return peopleTold(told);
+            default: return bitsTold(told, one, what, WEATHERS);
         }
     }
 
@@ -468,26 +465,25 @@ public final class RememberedAsSunny {
         return firstOtherwise(told, one) == NONE;
     }
 
-    private int kindsTold(Sheet told, int one) {
+    /** Which of many are such that all would be so, were each of them supposed. */
+    private int bitsTold(Sheet told, int one, int what, int many) {
         int bits = 0;
-        for (int kind = 0; kind < KINDS; kind++) {
-            thought.kinds[one] = kind;
+        for (int i = 0; i < many; i++) {
+            suppose(one, what, i);
             if (isJustSo(told, one)) {
-                bits |= 1 << kind;
+                bits |= 1 << i;
             }
         }
         return bits;
     }
 
-    private int numbersTold(Sheet told, int one) {
-        int bits = 0;
-        for (int number = 0; number < NUMBERS; number++) {
-            thought.numbers[one] = number;
-            if (isJustSo(told, one)) {
-                bits |= 1 << number;
-            }
+    private void suppose(int one, int what, int i) {
+        switch (what) {
+            case 1: thought.kinds[one] = i; break;
+            case 2: thought.numbers[one] = i; break;
+            case 7: thought.rule = i; break;
+            default: thought.weather[what - 10] = LOWEST_WEATHER + i;
         }
-        return bits;
     }
 
     private int yearsTold(Sheet told, int one, boolean howMany) {
@@ -530,33 +526,11 @@ public final class RememberedAsSunny {
         return bits;
     }
 
-    private int textsTold(Sheet told, int one) {
-        int bits = 0;
-        for (int text = 0; text < minds.size; text++) {
-            thought.rule = text;
-            if (isJustSo(told, one)) {
-                bits |= 1 << text;
-            }
-        }
-        return bits;
-    }
-
     private int peopleTold(Sheet told) {
         int bits = 0;
         for (int one = 0; one < thought.size; one++) {
             if (isJustSo(told, one)) {
                 bits |= 1 << one;
-            }
-        }
-        return bits;
-    }
-
-    private int weathersTold(Sheet told, int one, int hour) {
-        int bits = 0;
-        for (int i = 0; i < WEATHERS; i++) {
-            thought.weather[hour] = LOWEST_WEATHER + i;
-            if (isJustSo(told, one)) {
-                bits |= 1 << i;
             }
         }
         return bits;
@@ -647,7 +621,7 @@ public final class RememberedAsSunny {
         }
         int came = 0;
         for (int i = 0; i < n; i++) {
-            // Places are told from where the list stands, so that no place wraps.
+            // from itself is looked at first: a place of the list can't wrap by what is added.
             if (!list.has(from) || !list.has(from + 2 * i) || !list.has(from + 2 * i + 1)) {
                 return OUTSIDE;
             }
@@ -743,7 +717,8 @@ public final class RememberedAsSunny {
 
     /** What the kinds make of what a text tells. */
     private static final class Kinds {
-        static final int GUEST = 0, MOTHER = 1, BOY = 2, AUNT = 3, BABY = 4, WIDOW = 5;
+        /** A guest, kind 0, is what each switch has left. */
+        static final int MOTHER = 1, BOY = 2, AUNT = 3, BABY = 4, WIDOW = 5;
         /** The kind above each, NONE above a guest. */
         private static final int[] ABOVE = {-1, 0, 0, 1, 2, 0};
 
