@@ -55,6 +55,11 @@ public final class LanguageTest {
             boolean constant = Set.of("NONE", "BAD", "STATE", "FULL", "NO").contains(f.getName());
             check.that("the field " + f.getName(), constant ? Modifier.isPublic(f.getModifiers()) : Modifier.isPrivate(f.getModifiers()));
         }
+        check.due("NONE", RememberedAsSunny.NONE, -1);
+        check.due("BAD", RememberedAsSunny.BAD, -2);
+        check.due("STATE", RememberedAsSunny.STATE, -3);
+        check.due("FULL", RememberedAsSunny.FULL, -4);
+        check.due("NO", RememberedAsSunny.NO, -4611686018427387904L);
         for (Class<?> inside : c.getDeclaredClasses()) {
             for (Method m : inside.getDeclaredMethods()) {
                 privates.add(m.getName());
