@@ -115,6 +115,10 @@ public final class EdgesBestTest {
             set 1 0 1 = 0, person 0 0 = 0, set 2 0 70 = 100, premium = 0, set 2 0 69 = 70, premium = 1, set 2 0 20 = 69, premium = 5
             set 2 0 19 = 20, premium = 6, set 2 0 10 = 19, premium = 10, set 2 0 0 = 10, premium = 20, set 2 0 -1 = 0, premium = 21
             set 0 0 1 = 0, set 2 0 0 = -1, premium = 15, told 0 0 = 1""");
+        edges.promise(15, "behind any of 10 YEARS", """
+            rule "thinks 0;mends 0;claims (years=105)*50+(years=108)*99+(years=109)*99;"
+            set 1 0 1 = 0, set 0 0 99 = 0, person 0 0 = 0, set 2 0 0 = 100, premium = 15, set 2 0 98 = 0, premium = 6, told 0 0 = 99
+            set 2 0 149 = 98, premium = 0, set 2 0 148 = 149, premium = 1""");
         edges.promise(15, "the least that each would have to PAY, all the same (0 .. 99)", """
             rule "thinks 0;mends 0;claims 99;"
             set 1 0 1 = 0, person 0 0 = 0, set 6 0 98 = 5, set 2 0 0 = 100, premium = 99, set 2 0 9 = 0, premium = 99
