@@ -903,14 +903,6 @@ public final class RememberedAsSunny {
             return token >= WEATHER && token <= LAST;
         }
 
-        /** How many values must stand ahead of it in a code. */
-        static int operands(int token) {
-            if (token <= 0 || isName(token)) {
-                return 0;
-            }
-            return token == NEGATE || token == NOT ? 1 : 2;
-        }
-
         static boolean isSign(int letter) {
             switch (letter) {
                 case '(': case ')': case ';': case '+': case '-': case '*': case '<': case '=': return true;
@@ -947,20 +939,22 @@ public final class RememberedAsSunny {
             int end = text.ends[part + 1];
             for (int i = text.ends[part]; i < end; i++) {
                 int token = -text.code[i];
-                if (top < Token.operands(token) || top >= stack.length) {
-                    return 0;
-                }
-                if (token <= 0) {
-                    stack[top] = -token;
+                if (token <= 0 || Token.isName(token)) {
+                    if (top >= stack.length) {
+                        return 0;
+                    }
+                    stack[top] = token <= 0 ? -token : names[token - Token.FIRST_WORD];
                     top++;
-                } else if (Token.isName(token)) {
-                    stack[top] = names[token - Token.FIRST_WORD];
-                    top++;
-                } else if (token == Token.NEGATE) {
-                    stack[top - 1] = -stack[top - 1];
-                } else if (token == Token.NOT) {
-                    stack[top - 1] = stack[top - 1] == 0 ? 1 : 0;
+                } else if (token == Token.NEGATE || token == Token.NOT) {
+                    if (top < 1) {
+                        return 0;
+                    }
+                    int v = stack[top - 1];
+                    stack[top - 1] = token == Token.NEGATE ? -v : v == 0 ? 1 : 0;
                 } else {
+                    if (top < 2) {
+                        return 0;
+                    }
                     top--;
                     stack[top - 1] = joined(token, stack[top - 1], stack[top]);
                 }

@@ -131,16 +131,25 @@ public final class LanguageTest {
 
     /** A method begins four or eight blanks in and ends with a brace as far in. */
     private static void methods(String code) {
+        CallGraph graph = new CallGraph();
         String[] lines = code.split("\n");
+        String within = "RememberedAsSunny";
         for (int i = 0; i < lines.length; i++) {
-            Matcher m = Pattern.compile("^( {4}| {8})[a-zA-Z].*\\) \\{$").matcher(lines[i]);
-            if (m.matches() && !lines[i].contains(" class ")) {
+            Matcher inside = Pattern.compile("^ {4}private static final class (\\w+) \\{$").matcher(lines[i]);
+            within = inside.matches() ? inside.group(1) : within;
+            Matcher m = Pattern.compile("^( {4}| {8})[a-zA-Z].*?(\\w+)\\(.*\\) \\{$").matcher(lines[i]);
+            if (m.matches() && !lines[i].matches(" +(if|for|while|switch|do|else) .*")) {
                 int end = i;
                 while (end < lines.length && !lines[end].equals(m.group(1) + "}")) {
                     end++;
                 }
                 check.that("the method of line " + (i + 1) + " is short", end - i < 60);
+                graph.add(within, m.group(2), String.join("\n", Arrays.asList(lines).subList(i + 1, end)));
             }
+        }
+        check.that("methods", graph.methods().size() > 100);
+        for (String method : graph.methods()) {
+            check.that(method + " goes eight deep at most", graph.depth(method) <= 8);
         }
     }
 }
