@@ -72,11 +72,19 @@ public final class EdgesTextsTest {
             fault "thinks 1;mends 2;  ^weather"
             fault "thinks 1;mends 2;claims 3;^;"
             fault "thinks 1;mends 2;claims 3;  ^thinks 1"
+            fault "thinks 1;mends 2;claims 3;^4"
+            fault "thinks 1;mends 2;claims 3;^last"
             fault "thinks ^thinks"
             fault "thinks 12 ^34 $"
             """);
         edges.promise(6, "THE TAPE (160 bytes at most)", """
             tape "thinks 1;mends 2;claims 3;", 133* feed 32 = 159, feed 36 = 160, text = -259, 160* feed 97 = 160, text = -100""");
+        edges.promise(6, "THE TAPE, which is empty then (by a FAULT, too)", """
+            160* feed 57 = 160, text = -100, tape "thinks 1;mends 2;claims 3", text = -125, tape "thinks 1234", text = -111
+            tape "thinks 1;mends 2;claims 3;", text = 1""");
+        edges.promise(6, "THE TAPE, which is empty then (by a FAULT, too)", """
+            160* feed 122 = 160, text = -100, tape "thinks weather", text = -114, tape "thinks", text = -106
+            tape "thinks 1;mends 2;claims 3; ", text = 1""");
         edges.promise(6, "A TEXT is read from THE TAPE (160 bytes at most).", """
             tape "thinks 1;mends 2;claims", 135* feed 32 = 158, feed 57 = 159, feed 59 = 160, !feed 32 = -4, text = 1, person 0 0 = 0
             set 1 0 9 = 0, force 1 = 0, told 0 20 = 1, told 0 10 = 9""");
@@ -98,6 +106,8 @@ public final class EdgesTextsTest {
             fault "thinks 1 ^an 1;"
             fault "thinks 1;^mend 1;"
             fault "thinks ^weatherz;"
+            fault "thinks ^xeather;mends 2;claims 3;"
+            fault "^xhinks 1;"
             fault "thinks (^foo 1);mends 1;claims 1;"
             fault "thinks -^foo 1;mends 1;claims 1;"
             """);
@@ -161,6 +171,9 @@ public final class EdgesTextsTest {
             fault "thinks 1 ^/1;"
             fault "thinks 1;mends 2;claims 3;^$"
             fault "thinks 1^.;"
+            fault "thinks 1;mends 2;claims 3;^%00"
+            fault "thinks ^%01;mends 2;claims 3;"
+            fault "thinks ^%C8;mends 2;claims 3;"
             """);
         edges.promise(6, "SIGNS ( ) ; + - * < = ; blanks (32, 10) may stand between", """
             tape "thinks(1)+2-3*4<5;mends%0A1=2;claims%20%0A%0A3%20;", text = 1
@@ -334,6 +347,16 @@ public final class EdgesTextsTest {
             told 0 20 = 0, told 0 30 = 1
             rule "thinks 4 and 2;mends 4 or 2;claims 0;"
             told 0 20 = 1, told 0 30 = 1""");
+        edges.promise(6, "of or, and, not, <, = 1 or 0 (what is not 0 is true)", """
+            person 0 0 = 0
+            rule "thinks 1 and 1;mends 1 or 1;claims 0;"
+            told 0 20 = 1, told 0 30 = 1
+            rule "thinks 0 and 1;mends 0 or 1;claims 0;"
+            told 0 20 = 0, told 0 30 = 1
+            rule "thinks 1 and 0;mends 1 or 0;claims 0;"
+            told 0 20 = 0, told 0 30 = 1
+            rule "thinks not 1;mends 0=0;claims 0;"
+            told 0 20 = 0, told 0 30 = 1""");
     }
 
     private static void force() {
