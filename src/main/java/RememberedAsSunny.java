@@ -30,8 +30,6 @@ public final class RememberedAsSunny {
     /** What is only supposed: laid anew by every call that supposes something. */
     private final Outing thought = new Outing();
     private boolean hasImage = false;
-    private final int[] tape = new int[MOST_BYTES];
-    private int tapeSize = 0;
     private final Parser parser = new Parser();
     private final Minds minds = new Minds();
     private final Remedies remedies = new Remedies();
@@ -42,11 +40,10 @@ public final class RememberedAsSunny {
         for (int i = 0; i < SHEETS; i++) {
             sheets[i] = new Sheet();
         }
-        int size = Math.min(FIRST_RULE.length(), MOST_BYTES);
-        for (int i = 0; i < size; i++) {
-            tape[i] = FIRST_RULE.charAt(i);
+        for (int i = 0; i < FIRST_RULE.length(); i++) {
+            feed(FIRST_RULE.charAt(i));
         }
-        minds.add(parser.parse(tape, size));
+        text();
     }
 
     // ---- the outing, people
@@ -64,7 +61,7 @@ public final class RememberedAsSunny {
         if (kind < 0 || kind >= KINDS || number < 0 || number >= NUMBERS) {
             return BAD;
         }
-        return now.size < MOST_PEOPLE ? now.welcome(kind, number) : FULL;
+        return now.welcome(kind, number);
     }
 
     public int told(int of, int what) {
@@ -135,20 +132,15 @@ public final class RememberedAsSunny {
         if (letter < 0 || letter > 255) {
             return BAD;
         }
-        if (tapeSize >= MOST_BYTES) {
-            return FULL;
-        }
-        tape[tapeSize] = letter;
-        tapeSize++;
-        return tapeSize;
+        return parser.take(letter);
     }
 
     public int text() {
         if (minds.size >= MOST_TEXTS) {
             return FULL;
         }
-        Text made = parser.parse(tape, tapeSize);
-        tapeSize = 0;
+        Text made = parser.parse();
+        parser.size = 0;
         return made == null ? -100 - parser.fault : minds.add(made);
     }
 
@@ -445,7 +437,7 @@ public final class RememberedAsSunny {
             case 1: return Integer.bitCount(now.mended);
             case 2: return now.years;
             case 3: return minds.size;
-            case 4: return tapeSize;
+            case 4: return parser.size;
             case 5: return now.rule;
             default: return BAD;
         }
@@ -686,6 +678,9 @@ public final class RememberedAsSunny {
         }
 
         int welcome(int kind, int number) {
+            if (size >= MOST_PEOPLE) {
+                return FULL;
+            }
             int one = size;
             kinds[one] = kind;
             numbers[one] = number;
@@ -975,12 +970,13 @@ public final class RememberedAsSunny {
         }
     }
 
-    /** Reads the tape, a token in hand: the first one that can't stand is the fault, and nothing stands behind it. */
+    /** The tape, and what reads it, a token in hand: the first that can't stand is the fault, and nothing stands behind it. */
     private static final class Parser {
         private static final int MOST_OPEN = 5, MOST_DIGITS = 4;
 
-        private int[] tape = null;
-        private int size = 0;
+        private final int[] tape = new int[MOST_BYTES];
+        /** How many bytes the tape has. */
+        int size = 0;
         private int token = Token.END;
         /** Where the token in hand begins, and where the next may. */
         private int place = 0;
@@ -993,10 +989,17 @@ public final class RememberedAsSunny {
         private int codeSize = 0;
         int fault = NONE;
 
+        int take(int letter) {
+            if (size >= tape.length) {
+                return FULL;
+            }
+            tape[size] = letter;
+            size++;
+            return size;
+        }
+
         /** A text, or null: then fault tells the place. */
-        Text parse(int[] bytes, int many) {
-            tape = bytes;
-            size = Math.min(many, bytes.length);
+        Text parse() {
             next = 0;
             open = 0;
             codeSize = 0;
